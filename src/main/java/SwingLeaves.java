@@ -980,6 +980,7 @@ public final class SwingLeaves {
     private static final class Trials {
         private static final int BUMP_LOSS = 20;
         private static final int BOTH_WAIT_LOSS = 9;
+        private static final int ABOVE_ALL_COSTS = 1000000000;
 
         private final House house;
         private final Plan plan;
@@ -995,10 +996,16 @@ public final class SwingLeaves {
             this.evening = evening;
         }
 
-        /** Of like ones the first that is tried stays. */
-        private void weigh(int choice, boolean first) {
-            int cost = trialCost();
-            if (first || cost < foundCost) {
+        private void startSearch() {
+            trial.copyFrom(plan);
+            foundCost = ABOVE_ALL_COSTS;
+        }
+
+        /** Of like ones the first that is tried stays; so a search may end at a cost of 0. */
+        private void weigh(int choice) {
+            evening.run(trial);
+            int cost = evening.cost();
+            if (cost < foundCost) {
                 found = choice;
                 foundCost = cost;
             }
@@ -1016,14 +1023,14 @@ public final class SwingLeaves {
         }
 
         int bestRules(int w) {
-            trial.copyFrom(plan);
+            startSearch();
             int choices = 1;
             for (int i = 0; i < house.waiters; i++) {
                 choices *= RULES;
             }
-            for (int choice = 0; choice < choices; choice++) {
+            for (int choice = 0; choice < choices && foundCost > 0; choice++) {
                 spellRules(choice);
-                weigh(choice, choice == 0);
+                weigh(choice);
             }
             spellRules(found);
             return w >= 0 && w < MOST_WAITERS ? trial.rules[w] : foundCost;
@@ -1039,20 +1046,20 @@ public final class SwingLeaves {
         }
 
         void findKick(int w) {
-            trial.copyFrom(plan);
-            for (int k = 1; k <= MOST_KICK; k++) {
+            startSearch();
+            for (int k = 1; k <= MOST_KICK && foundCost > 0; k++) {
                 trial.kicks[w] = k;
-                weigh(k, k == 1);
+                weigh(k);
             }
         }
 
-        /** Only behind a tenth at which one comes does another evening follow: the tenths between are like the first of them. */
+        /** A later tenth makes another evening only right behind one at which somebody comes. */
         void findChange(int before, int after) {
-            trial.copyFrom(plan);
-            for (int tenth = 0; tenth <= LAST_COMING + 1; tenth++) {
+            startSearch();
+            for (int tenth = 0; tenth <= LAST_COMING + 1 && foundCost > 0; tenth++) {
                 if (tenth == 0 || oneComesAt(tenth - 1)) {
                     changeAt(tenth, before, after);
-                    weigh(tenth, tenth == 0);
+                    weigh(tenth);
                 }
             }
         }
@@ -1099,12 +1106,12 @@ public final class SwingLeaves {
         }
 
         int bestOrder(int side, int i) {
-            trial.copyFrom(plan);
+            startSearch();
             seating.gather(house, plan, side);
-            for (int number = 0; number < seating.orders(); number++) {
+            for (int number = 0; number < seating.orders() && foundCost > 0; number++) {
                 seating.seatBy(number);
                 seating.giveTenths(trial);
-                weigh(number, number == 0);
+                weigh(number);
             }
             if (i == NONE) {
                 return foundCost;
