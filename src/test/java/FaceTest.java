@@ -21,7 +21,7 @@ final class FaceTest {
     private static final Set<String> CONSTANTS = new TreeSet<>(Arrays.asList("NONE", "UNKNOWN", "OUTSIDE", "NOT", "FULL"));
     private static final String FORBIDDEN =
         "\\b(throw|throws|try|catch|synchronized|assert|Exception|Random|currentTimeMillis|nanoTime|Thread|package"
-        + "|hashCode|toString|Exact)\\b|->|::";
+        + "|hashCode|toString|MAX_VALUE|MIN_VALUE|\\w*Exact)\\b|->|::";
 
     public static void main(String[] args) throws Exception {
         Checks checks = new Checks();
