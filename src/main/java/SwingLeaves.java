@@ -955,8 +955,8 @@ public final class SwingLeaves {
             System.arraycopy(members, 0, seated, 0, count);
             int rest = number;
             for (int place = 0; place < count; place++) {
-                int each = ORDERS[count - 1 - place];
-                bringForward(place + rest / each, place);
+                int each = Math.max(1, ORDERS[count - 1 - place]);
+                bringForward(Math.min(place + rest / each, count - 1), place);
                 rest = rest % each;
             }
         }
@@ -998,6 +998,7 @@ public final class SwingLeaves {
 
         private void startSearch() {
             trial.copyFrom(plan);
+            found = 0;
             foundCost = ABOVE_ALL_COSTS;
         }
 

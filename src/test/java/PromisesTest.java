@@ -43,6 +43,7 @@ final class PromisesTest {
         book();
         seed();
         images();
+        imagesAnew();
         CHECKS.end();
     }
 
@@ -681,6 +682,14 @@ final class PromisesTest {
         x.come(0, 44);
         due("goBack(1) twice", 1, x.goBack(1));
         same("there and back again", other, x);
+    }
+
+    private static void imagesAnew() {
+        SwingLeaves x = Checks.houseOf(BUSY);
+        x.keep(0);
+        String before = stateOf(x);
+        x.come(0, 1);
+        x.keep(1);
         x.goBack(0);
         x.keep(1);
         x.goBack(1);
