@@ -137,6 +137,10 @@ final class TriedEdgesTest {
         Room four = Room.of("g1;l0 1 5;l1 1 0;w1 3 3 0 1 1 0;w0 5 2 0 1 0 0;w1 6 3 5 1 0 0;");
         asks(four, "change(0, 1, 0)", 7, "less than one tenth");
         asks(four, "change(0, 1, 1)", 0, "less than one tenth");
+        // Six by one leaf: all but the first are struck, whenever they change over to the same rule.
+        Room six = Room.of("l0 1 9;w0 0 1 1 1 0 0;w0 3 1 1 1 0 0;w0 6 1 1 1 0 0;w0 9 1 1 1 0 0;w0 12 1 1 1 0 0;w0 999 1 1 1 0 0;");
+        asks(six, "change(0, 0, 0)", 0, "of like ones the least");
+        asks(six, "change(0, 0, 1)", 40, "the last one comes late");
     }
 
     /** "WORTH .. in so many evenings (0 .. 999; may be below 0)". */
